@@ -1201,10 +1201,6 @@ public final class PromiseWeb {
             return tape.isWord("hair") ? HAIR : NONE;
         }
 
-        private boolean isName() {
-            return tape.token == Tape.WORD && sortOfLine() == NONE;
-        }
-
         private boolean readBehind(int sort) {
             switch (sort) {
                 case WEB:
@@ -1264,7 +1260,7 @@ public final class PromiseWeb {
 
         private boolean takeNewName(int sort) {
             tape.advance();
-            if (!isName()) {
+            if (tape.token != Tape.WORD || sortOfLine() != NONE) {
                 return fail(FORM);
             }
             if (names.isTold(tape.code)) {
@@ -1276,7 +1272,7 @@ public final class PromiseWeb {
 
         private boolean takeName(int sort) {
             tape.advance();
-            if (!isName()) {
+            if (tape.token != Tape.WORD || sortOfLine() != NONE) {
                 return fail(FORM);
             }
             int number = names.numberOf(tape.code, sort);

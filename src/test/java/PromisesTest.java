@@ -364,6 +364,11 @@ public final class PromisesTest {
     due("21 now", x.fallsIn(1), 0);
     due("21 in one", x.fallsIn(2), 1);
     check.refused("21 no load", x, x.fallsIn(3), -1, 1);
+    PromiseWeb slow = told("web slips 0 clerks 0;nail a;nail b;nail c;thread p fading a b strong 60 step 1;"
+        + "thread q fading b c strong 61 step 1;thread r lied a c strong 1 step 20;load a b 1;load c b 1;load a c 2");
+    due("21 in 60", slow.fallsIn(0), 60);
+    due("21 in 61", slow.fallsIn(1), -2);
+    due("21 two ways, the one lied on", slow.fallsIn(2), 59);
     check.refused("21 no load", x, x.fallsIn(-1), -1, 1);
     due("22 over", x.spare(0), 2);
     due("22 under", x.spare(1), -1);
