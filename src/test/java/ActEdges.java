@@ -49,6 +49,12 @@ final class ActEdges {
     PromiseWeb none = edges.web(SPUN + "load a b 1");
     for (int t = 0; t < 8; t++) edges.due("of none told, the one of number " + t, none.spin(0), t);
     edges.refused("the ninth", none, none.spin(1), -1, 3);
+    PromiseWeb again = edges.web(SPUN + Edges.times(7, "thread # fading b a strong 50 step 20;") + "load a b 1");
+    Check.tell(again, SPUN + "load a b 1");
+    again.year();
+    for (int t = 0; t < 7; t++) edges.due("where another WEB's faded thread was, " + t, again.strong(again.spin(1), 60), 9);
+    int[] row = {0, 1, 0, 9, 0, 0, 0};
+    for (int what = 0; what < 7; what++) edges.due("thread(6, " + what + ")", again.thread(6, what), row[what]);
   }
 
   private void darnTerms() {

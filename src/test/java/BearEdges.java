@@ -77,6 +77,13 @@ final class BearEdges {
     edges.due("k and l, not m alone, which is stronger", x.cut(0, 2, 0), 3);
     edges.due("m, n not HOLDING", x.cut(1, 2, 0), 4);
     edges.due("nothing is BORNE: no thread", x.cut(0, 3, 0), 0);
+    PromiseWeb ends = web(FOUR + kept("k", "a b", 1) + kept("l", "b c", 2) + kept("m", "c d", 1));
+    ends.snap(2);
+    edges.due("at the one nail", ends.cut(0, 2, 0), 1);
+    edges.due("at the other one", ends.cut(2, 0, 0), 1);
+    PromiseWeb alone = web(TextEdges.NAILS + "nail c;" + kept("k", "c b", 5) + kept("l", "a c", 1));
+    edges.due("at the one nail, no nail being free", alone.cut(0, 1, 0), 2);
+    edges.due("at the other one, no nail being free", alone.cut(1, 0, 0), 2);
     edges.terms("the fewest such, of like ones the least bits.");
     edges.due("one rather than two of less bits", web(FOUR + kept("k", "a b", 1) + kept("l", "a b", 1) + kept("m", "b c", 2)).cut(0, 2, 0), 4);
     edges.due("two rather than three", web(FOUR + kept("k", "a b", 1) + kept("l", "a b", 1) + kept("m", "a b", 1) + kept("n", "b c", 1)
@@ -174,6 +181,9 @@ final class BearEdges {
     edges.due("c, by which nothing is BORNE", star.weakest(0), 2);
     star.snap(0);
     edges.due("b ahead of c", star.weakest(0), 1);
+    // what parts two nails parts one of them from the first nail: the lesser of the first two is always 0
+    PromiseWeb far = web(FOUR + kept("k", "a b", 9) + kept("l", "b c", 9) + kept("m", "c d", 1));
+    edges.due("a and d, as little as c and d", far.weakest(0), 3);
     PromiseWeb y = web(NAILS + "nail c;thread f fading a b strong 60 step 1;" + kept("k", "a c", 1));
     edges.due("behind 58 years, f of 2", y.weakest(58), 2);
     edges.due("behind 59 years, as much", y.weakest(59), 1);

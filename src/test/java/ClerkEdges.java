@@ -121,6 +121,11 @@ final class ClerkEdges {
       edges.refused("much 800", x, x.bearOdds(0, 1, 800, lower), lower ? 1 : 0, 0);
       edges.refused("much 801", x, x.bearOdds(0, 1, 801, lower), -1, 2);
     }
+    odds("much 0, though nothing can be BORNE", x, 2, 0, 1, 1);
+    odds("much 1, as nothing can be BORNE", x, 2, 1, 0, 1);
+    PromiseWeb none = web(50, "nail d");
+    odds("much 0, no thread", none, 1, 0, 1, 1);
+    odds("much 1, no thread", none, 1, 1, 0, 1);
   }
 
   private void mean() {
@@ -136,6 +141,7 @@ final class ClerkEdges {
     means("as strong as NOW", fading, 1, 5, 2);
     fading.year();
     means("as strong as NOW, which is 0", fading, 1, 0, 1);
+    means("no thread", web(50, "nail d"), 1, 0, 1);
   }
 
   private void years() {

@@ -211,6 +211,12 @@ final class LiarEdges {
     edges.share("one spun beside an unsure one", x.brown(7, 0, false), x.brown(7, 0, true), 4, 5);
     x.snap(6);
     edges.share("one lied, SNAPPED", x.brown(6, 1, false), x.brown(6, 1, true), 1, 1);
+    PromiseWeb five = web(20, FIVE + ";hair k l brown");
+    edges.share("one lied beside five unsure ones", five.brown(6, 6, false), five.brown(6, 6, true), 1, 1);
+    edges.share("one kept beside five unsure ones", five.brown(5, 5, false), five.brown(5, 5, true), 0, 1);
+    PromiseWeb sure = web(20, "");
+    edges.share("no unsure one, no hair: one lied", sure.brown(6, 0, false), sure.brown(6, 0, true), 1, 1);
+    edges.share("no unsure one, no hair: kept ones", sure.brown(5, 0, false), sure.brown(5, 0, true), 0, 1);
     PromiseWeb unsure = web(0, ";unsure z");
     edges.share("of an unsure one not by KIND", unsure.brown(6, 6, false), unsure.brown(6, 6, true), 1, 2);
     PromiseWeb none = web(0, ";unsure k;hair y y brown");

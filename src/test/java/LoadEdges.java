@@ -166,6 +166,9 @@ final class LoadEdges {
     edges.answers("all are BORNE NOW", edges.web(all), PromiseWeb::bestOffer, -2);
     edges.answers("one more than NOW", edges.web(all + ";load a b 10"), PromiseWeb::bestOffer, 0);
     edges.answers("as many as NOW", edges.web(all + ";load a b 11"), PromiseWeb::bestOffer, -2);
+    String fading = NAILS + "thread f fading a b strong 5 step 1;offer a b strong 5 costs 0;load a b ";
+    edges.answers("BORNE NOW, though in a year it isn't", edges.web(fading + "5"), PromiseWeb::bestOffer, -2);
+    edges.answers("by one more than NOW, though not in a year", edges.web(fading + "10"), PromiseWeb::bestOffer, 0);
   }
 
   private void clashes() {

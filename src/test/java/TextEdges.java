@@ -298,6 +298,13 @@ final class TextEdges {
     for (String word : new String[] {"slips", "clerks", "strong", "step", "costs", "kept", "fading", "proving", "lied", "brown", "clear"})
       edges.good(WEB + "nail " + word + ";nail b;thread c kept " + word + " b strong 1 step 0;load b " + word + " 1;hair c c brown", 2);
     edges.terms("each told once, ahead of its use.");
+    String fourteen = WEB + Edges.times(7, "nail n#;") + Edges.times(7, "thread t# kept nk nq strong 1 step 0;");
+    edges.good(fourteen + "clash tk tq;unsure tq;hair tq tq brown;load nq nk 1;offer nk nq strong 1 costs 1", 7);
+    String last = WEB + Edges.times(6, "nail n#;") + Edges.times(7, "thread t# kept nk nl strong 1 step 0;");
+    edges.good(last + "nail zz;load zz nk 1", 7);
+    edges.fault(last + "nail zz;load zz @zz 1", 3);
+    edges.fault(last + "load nk @zz 1;nail zz", 2);
+    edges.fault(last + "nail @tq", 3);
     edges.fault(WEB + "nail a;nail @a", 3);
     edges.fault(NAILS + "thread @a kept a b strong 1 step 0", 3);
     edges.fault(THREADS + "nail @u", 3);

@@ -28,6 +28,9 @@ final class TurnEdges {
     edges.terms("SNAP by turns: two, the one first, each snaps a thread that HOLDS NOW (each is as strong as NOW till it is snapped)");
     edges.due("one that doesn't HOLD can't be snapped", edges.web(NAILS + "thread k kept a b strong 1 step 0;thread m lied a b strong 9 step 0").snaps(0, 1), 0);
     edges.due("one that HOLDS elsewhere can", edges.web(NAILS + "thread k kept a b strong 1 step 0;thread m kept a c strong 9 step 0").snaps(0, 1), 1);
+    edges.due("one that fades in a year", edges.web(NAILS + "thread k fading a b strong 1 step 1").snaps(0, 1), 0);
+    edges.due("the first of two of which it fades in a year",
+        edges.web(NAILS + "thread k fading a b strong 1 step 1;thread l kept a b strong 1 step 0").snapsBy(0, 1), 0);
     edges.due("two that fade in a year", edges.web(NAILS + "thread k fading a b strong 1 step 1;thread l fading a b strong 1 step 1").snaps(0, 1), 1);
     edges.terms("by whose snapping there is nothing more that the web BEARS between two nails, that one has lost");
     edges.due("the last of one", sideBySide(1).snaps(0, 1), 0);

@@ -21,6 +21,7 @@ final class WebEdges {
     feedFull();
     firstBytes();
     webFromNow();
+    webBehindWeb();
     numberOfBytes();
     faultStays();
     fault();
@@ -194,6 +195,14 @@ final class WebEdges {
     edges.due("two", nails[34], 2);
     edges.due("a NAME cut short", nails[text.length() - 2], 3);
     edges.due("all", nails[text.length()], 3);
+    String whole = NAILS + "load a b 123";
+    int[] much = {-1000, 1, 12, 123};
+    for (int cut = 0; cut <= 3; cut++) {
+      PromiseWeb y = new PromiseWeb();
+      Check.feed(y, whole);
+      edges.due("a WHOLE of " + cut + " digits", y.web(whole.length() - 3 + cut), cut == 0 ? -1 : 2);
+      edges.due("its worth", y.spare(0), cut == 0 ? much[0] : -much[cut]);
+    }
     PromiseWeb x = new PromiseWeb();
     Check.feed(x, text);
     x.web(text.length());
@@ -226,6 +235,39 @@ final class WebEdges {
     edges.due("the same WEB again", Check.tell(x, THREADS + "offer a b strong 1 costs 1;load a b 1"), 2);
     edges.same("as a new one", Edges.allOf(x), Edges.allOf(edges.web(THREADS + "offer a b strong 1 costs 1;load a b 1")));
     edges.due("seven nails", Check.tell(new PromiseWeb(), WEB + Edges.times(6, "nail #;") + "nail zz"), 7);
+  }
+
+  /** Each of these is told behind each other one, and then all is as it is for an object that was told only the latter. */
+  private void webBehindWeb() {
+    edges.promise(3, "are the WEB from now on (no year gone by; nothing to undo, no IMAGES): how many nails");
+    String many = TextEdges.WEB + Edges.times(7, "nail n#;") + Edges.times(7, "thread # fading nk nl strong 50 step 20;");
+    String[] texts = {
+        WEB + "nail a", NAILS + "offer a b strong 2 costs 1",
+        THREADS + "offer b a strong 3 costs 7;load a b 9;clash t u;unsure t;hair t t brown",
+        many + "clash k l;clash k m;clash k n;clash k o;clash k p;clash k q;clash l m;clash q p;offer nl nk strong 1 costs 1",
+        many + "load nk nl 1;load nk nl 2;load nk nl 300;load nk nl 4;offer nk nl strong 99 costs 99;offer nk nl strong 9 costs 9",
+        many + "unsure k;unsure l;unsure m;unsure n;unsure o;" + Edges.times(6, "hair q q brown;") + "offer nk nl strong 9 costs 9"};
+    for (String before : texts) {
+      for (String text : texts) {
+        PromiseWeb x = edges.web(before);
+        moved(x);
+        edges.due("'" + text + "' behind '" + before + "'", Check.tell(x, text), edges.web(text).size(2));
+        PromiseWeb twin = edges.web(text);
+        edges.same("'" + text + "' behind '" + before + "' is as alone", moved(x) + Edges.webOf(x), moved(twin) + Edges.webOf(twin));
+      }
+    }
+  }
+
+  /** ACTS of each sort, and what is then. */
+  private static String moved(PromiseWeb x) {
+    StringBuilder all = new StringBuilder("judge " + x.judge() + " test " + x.test() + " likeliest " + x.likeliest() + " mend " + x.mend());
+    int told = x.size(3);
+    all.append(" brown ").append(x.brown(told - 1, 0, false)).append(" by ").append(x.brown(told - 1, 0, true));
+    all.append(" image ").append(x.image()).append(" year ").append(x.year()).append(" spin ").append(x.spin(0));
+    int last = x.size(3) - 1;
+    for (int what = 0; what < 7; what++) all.append(' ').append(x.thread(last, what));
+    all.append(" in a year ").append(x.strong(last, 1)).append(" snap ").append(x.snap(last)).append(" darn ").append(x.darn(0));
+    return all.append(" clashes ").append(x.clashes(0)).append(" borne ").append(x.borne(0)).toString();
   }
 
   private void numberOfBytes() {
