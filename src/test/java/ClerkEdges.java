@@ -52,6 +52,10 @@ final class ClerkEdges {
     odds("both stay", web(25, two), 1, 8, 9, 16);
     odds("one stays", web(25, two), 1, 1, 15, 16);
     odds("both, in a row", web(25, kept("k", "a b", 5) + "thread l kept b c strong 3 step 0"), 2, 1, 9, 16);
+    String between = "thread z lied a b strong 3 step 0;" + kept("k", "a b", 5) + "thread y lied a b strong 3 step 0;thread l kept b a strong 3 step 0";
+    odds("two among others that don't HOLD, both", web(25, between), 1, 8, 9, 16);
+    odds("two among others that don't HOLD, one", web(25, between), 1, 1, 15, 16);
+    means("two among others that don't HOLD, the mean", web(25, between), 1, 6, 1);
     odds("one that doesn't HOLD", web(25, kept("k", "a b", 5) + "thread m lied a b strong 3 step 0"), 1, 1, 3, 4);
   }
 

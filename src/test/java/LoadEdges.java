@@ -90,6 +90,8 @@ final class LoadEdges {
         .mend(), 1);
     edges.due("all three", edges.web(NAILS + offers + "load a b 10").mend(), 7);
     edges.due("all loads", edges.web(NAILS + "nail c;offer a b strong 1 costs 1;offer a c strong 1 costs 1;load a b 1;load b c 1").mend(), 3);
+    edges.due("two in a row", edges.web(NAILS + "nail c;offer c b strong 1 costs 1;offer c a strong 1 costs 1;load a b 1").mend(), 3);
+    edges.due("two in a row, told the other way", edges.web(NAILS + "nail c;offer b c strong 1 costs 1;offer a c strong 1 costs 1;load a b 1").mend(), 3);
     PromiseWeb spun = edges.web(NAILS + Edges.times(7, "thread # kept a b strong 1 step 0;") + Edges.times(5, "offer a b strong 1 costs 1;") + "load a b 12");
     edges.due("twelve threads in all", spun.mend(), 31);
     spun.spin(0);
@@ -146,6 +148,10 @@ final class LoadEdges {
     edges.answers("of like ones the first", edges.web(NAILS + "offer a b strong 3 costs 0;offer a b strong 5 costs 9;offer a b strong 5 costs 0;" + loads),
         PromiseWeb::bestOffer, 1);
     edges.answers("each alone", edges.web(NAILS + "offer a b strong 2 costs 0;offer a b strong 2 costs 0;offer a b strong 3 costs 0;" + loads),
+        PromiseWeb::bestOffer, 2);
+    edges.answers("the fifth, of one load", edges.web(NAILS + Edges.times(4, "offer a b strong 1 costs 0;") + "offer a b strong 2 costs 0;load a b 2"),
+        PromiseWeb::bestOffer, 4);
+    edges.answers("not one between other nails", edges.web(NAILS + "nail c;offer c b strong 9 costs 0;offer a c strong 9 costs 0;offer b a strong 1 costs 0;load a b 1"),
         PromiseWeb::bestOffer, 2);
     edges.answers("by all four", edges.web(NAILS + "offer a b strong 5 costs 0;offer a b strong 6 costs 9;" + loads), PromiseWeb::bestOffer, 1);
     PromiseWeb x = edges.web(NAILS + Edges.times(7, "thread # kept a b strong 1 step 0;") + "offer a b strong 1 costs 0;offer a b strong 2 costs 0;"
@@ -258,6 +264,9 @@ final class LoadEdges {
     edges.answers("one faded", two, PromiseWeb::peaces, 2);
     two.snap(0);
     edges.answers("none HOLDS", two, PromiseWeb::peaces, 1);
+    String between = "thread k kept a b strong 1 step 0;thread z lied a b strong 1 step 0;thread m kept a b strong 1 step 0";
+    edges.answers("one between two doesn't HOLD", edges.web(NAILS + between), PromiseWeb::peaces, 4);
+    edges.answers("and they clash", edges.web(NAILS + between + ";clash m k;clash k z"), PromiseWeb::peaces, 3);
     PromiseWeb all = edges.web(NAILS + Edges.times(7, "thread # kept a b strong 1 step 0;") + "offer a b strong 1 costs 0");
     edges.answers("seven", all, PromiseWeb::peaces, 128);
     all.spin(0);

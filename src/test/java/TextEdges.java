@@ -119,6 +119,8 @@ final class TextEdges {
       boolean letter = b >= 'a' && b <= 'z';
       if (b == ' ' || letter) edges.good(text, 2);
       else edges.faultAt(text, 1, b == ';' ? head.length() + 1 : head.length());
+      String used = NAILS + "load a ";
+      if (b != ' ' && !letter) edges.faultAt(used + (char) b + " 1", 1, used.length());
       String first = (char) b + WEB + "nail a";
       if (b == ' ') edges.good(first, 1);
       else edges.faultAt(first, 1, 0);
