@@ -3,6 +3,9 @@ final class LiarEdges {
   /** Threads k, l, m, n, o and y are kept, z is lied. */
   private static final String THREADS = " clerks 0;nail a;nail b;" + Edges.times(5, "thread # kept a b strong 1 step 0;")
       + "thread y kept a b strong 1 step 0;thread z lied a b strong 1 step 20;offer a b strong 1 costs 0";
+  /** Threads z, y and x, in this order: the first of all is lied. */
+  private static final String LIED_FIRST = "web slips 0 clerks 0;nail a;nail b;thread z lied a b strong 1 step 20;thread y kept a b strong 1 step 0;"
+      + "thread x kept a b strong 1 step 0";
   private static final String FIVE = ";unsure k;unsure l;unsure m;unsure n;unsure o";
   private final Edges edges;
 
@@ -55,6 +58,9 @@ final class LiarEdges {
     edges.due("beside a lied one, clear: none", web(0, ";unsure k;hair z k clear").fits(), 0);
     edges.due("a kept one, brown: none", web(0, ";hair y y brown").fits(), 0);
     edges.due("a kept one, clear", web(0, ";hair y y clear").fits(), 1);
+    edges.due("the first thread, lied, brown", edges.web(LIED_FIRST + ";unsure y;hair z x brown").fits(), 2);
+    edges.due("the first thread, lied, clear: none", edges.web(LIED_FIRST + ";unsure y;hair z x clear").fits(), 0);
+    edges.due("the first thread, lied, none being unsure", edges.web(LIED_FIRST + ";hair x z brown").fits(), 1);
     PromiseWeb spent = web(0, ";unsure k;hair k z clear");
     spent.snap(6);
     for (int i = 0; i < 20; i++) spent.year();
@@ -217,6 +223,15 @@ final class LiarEdges {
     PromiseWeb sure = web(20, "");
     edges.share("no unsure one, no hair: one lied", sure.brown(6, 0, false), sure.brown(6, 0, true), 1, 1);
     edges.share("no unsure one, no hair: kept ones", sure.brown(5, 0, false), sure.brown(5, 0, true), 0, 1);
+    PromiseWeb first = edges.web(LIED_FIRST + ";unsure y");
+    edges.share("the first thread, lied", first.brown(0, 2, false), first.brown(0, 2, true), 1, 1);
+    edges.share("the first thread, lied, beside an unsure one", first.brown(1, 0, false), first.brown(1, 0, true), 1, 1);
+    PromiseWeb again = edges.web(TextEdges.NAILS + Edges.times(7, "thread # lied a b strong 1 step 20;") + "load a b 1");
+    Check.tell(again, TextEdges.NAILS + "offer a b strong 1 costs 0");
+    for (int t = 0; t < 8; t++) {
+      again.spin(0);
+      edges.share("one spun where another WEB's lied one was, " + t, again.brown(t, 0, false), again.brown(t, 0, true), 0, 1);
+    }
     PromiseWeb unsure = web(0, ";unsure z");
     edges.share("of an unsure one not by KIND", unsure.brown(6, 6, false), unsure.brown(6, 6, true), 1, 2);
     PromiseWeb none = web(0, ";unsure k;hair y y brown");
@@ -230,6 +245,8 @@ final class LiarEdges {
     edges.answers("no hair", web(0, ""), PromiseWeb::judge, -2);
     String right = ";hair y y clear;hair z z brown;hair y z brown;hair z y brown;hair k l clear";
     edges.answers("none wrong", web(0, right), PromiseWeb::judge, -2);
+    edges.answers("no hair, the first thread being lied", edges.web(LIED_FIRST), PromiseWeb::judge, -2);
+    edges.answers("none wrong, the first thread being lied", edges.web(LIED_FIRST + ";hair z z brown;hair y x clear"), PromiseWeb::judge, -2);
     edges.answers("the sixth", web(0, right + ";hair y k brown"), PromiseWeb::judge, 5);
     edges.answers("the first", web(50, ";hair z y clear" + right), PromiseWeb::judge, 0);
     edges.answers("two: the first of them", web(100, ";hair y y clear;hair y y brown;hair z z clear"), PromiseWeb::judge, 1);
