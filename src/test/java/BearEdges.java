@@ -220,6 +220,9 @@ final class BearEdges {
       x.snap(t);
       edges.due("without " + t + " and those before it", x.parts(0), t + 2);
     }
+    edges.due("two parts, a nail of the one between those of the other", web(FOUR + kept("k", "a c", 1) + kept("l", "b d", 1)).parts(0), 2);
+    edges.due("two nails alone between those of a part", web(FOUR + kept("k", "d a", 1)).parts(0), 3);
+    edges.due("a nail alone behind a ring, told from its end", web(FOUR + kept("k", "d b", 1) + kept("l", "b a", 1) + kept("m", "a d", 1)).parts(0), 2);
     PromiseWeb y = web(NAILS + "thread f fading a b strong 60 step 1");
     edges.due("behind 59 years", y.parts(59), 1);
     edges.due("behind 60 years", y.parts(60), 2);
@@ -234,6 +237,8 @@ final class BearEdges {
     edges.due("none of two side by side", web(NAILS + kept("k", "a b", 1) + kept("l", "b a", 1)).bridges(0), 0);
     edges.due("none of a ring", web(FOUR + kept("k", "a b", 1) + kept("l", "b c", 1) + kept("m", "c a", 1)).bridges(0), 0);
     edges.due("one beside a ring", web(FOUR + kept("k", "a b", 1) + kept("l", "b c", 1) + kept("m", "c a", 1) + kept("n", "d a", 1)).bridges(0), 8);
+    edges.due("two of two parts, told between each other", web(FOUR + kept("k", "a c", 1) + kept("l", "b d", 1)).bridges(0), 3);
+    edges.due("one part's pair beside the other's bridge", web(FOUR + kept("k", "a c", 1) + kept("l", "b d", 1) + kept("m", "c a", 1)).bridges(0), 2);
     PromiseWeb y = web(NAILS + "thread f fading a b strong 60 step 1;" + kept("k", "b a", 1) + "thread m lied a b strong 9 step 0;");
     edges.due("behind 59 years", y.bridges(59), 0);
     edges.due("behind 60 years", y.bridges(60), 2);

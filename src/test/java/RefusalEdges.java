@@ -5,7 +5,7 @@ import java.util.function.Supplier;
 
 /**
  * Each call that may be refused, with each of its numbers far below its bounds, one below, at both, one above and far
- * above, alone and together: its answer, TROUBLE, and that a refused one leaves all else as it was.
+ * above, alone and together: its answer, TROUBLE, and that a refused one, and one that only asks, leaves all else as it was.
  */
 final class RefusalEdges {
   private interface Call {
@@ -44,9 +44,12 @@ final class RefusalEdges {
   private static final Number NAIL = Number.NAIL;
   private static final Number THREAD = Number.THREAD;
   private static final Number YEARS = Number.YEARS;
+  private static final int FIRST_ACT = 48;
   private final Edges edges;
   private final List<Supplier<PromiseWeb>> states = new ArrayList<>();
   private final List<String> sights = new ArrayList<>();
+  /** Whether the call only asks, so that it leaves all as it was when it isn't refused, too. */
+  private boolean asks;
 
   RefusalEdges(Edges edges) {
     this.edges = edges;
@@ -107,6 +110,7 @@ final class RefusalEdges {
   /** A call by some numbers in each state. */
   private void call(int promise, String words, String name, long refusal, boolean unlike, Call call, Number... numbers) {
     edges.promise(promise, words);
+    asks = promise < FIRST_ACT;
     for (int state = 0; state < states.size(); state++) each(state, name, refusal, unlike, call, numbers, new int[numbers.length], 0);
   }
 
@@ -133,6 +137,7 @@ final class RefusalEdges {
       // an ACT may still be refused for what is NOW; the tests of ACTS ask that
       boolean notSo = got == refusal && x.trouble() == 5;
       edges.due(name + " isn't refused", notSo || got != refusal && x.trouble() == 0, true);
+      if (asks) edges.same(name + ", which only asks, leaves all as it was", Edges.allOf(x), sights.get(state));
     } else {
       edges.refused(name, x, got, refusal, trouble);
       edges.same(name + " leaves all as it was", Edges.allOf(x), sights.get(state));
